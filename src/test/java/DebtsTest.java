@@ -17,6 +17,8 @@ public final class DebtsTest {
         comingWrong();
         rollFull();
         sticksFull();
+        oneTooMany("wait;", 10);
+        oneTooMany("part 1;", 5);
         freeing();
         heirs();
         abouts();
@@ -303,6 +305,28 @@ public final class DebtsTest {
         Check.due("12: who owes nothing may come", x.come(1, 1), 0);
         Check.due("19: the last stick", x.stick(1999, -1), 9);
         Check.due("17: the last line's", x.line(1999, 7), 1999);
+    }
+
+    /** Person 1 has 399 debts and person 2 one: what they make together just fills the row that is full first. */
+    private static void oneTooMany(String text, int comings) {
+        CrownTable x = Check.houseWith(text);
+        for (int shire = 0; shire < 8; shire++) {
+            x.shire(shire, 1000, 1);
+        }
+        Check.terms(x, 99);
+        x.debt(2, 1, 1000, -1);
+        x.shire(7, 0, -1);
+        x.term();
+        for (int shire = 0; shire < 7; shire++) {
+            x.shire(shire, 0, -1);
+        }
+        for (int coming = 0; coming < comings; coming++) {
+            Check.due("12: 399", x.come(1, 1000000), 399);
+            Check.due("12: and one", x.come(2, 1000), 1);
+            x.term();
+        }
+        Check.due("12: FULL by one", x.come(2, 1000), FULL);
+        Check.due("12: lines", x.count(1), 400 * comings);
     }
 
     private static void freeing() {

@@ -94,6 +94,13 @@ public final class TextsTest {
         fault(";", 0);
         fault("pa", 0);
         fault("payd;", 0);
+        fault("payz;", 0);
+        fault("paya;", 0);
+        fault("pay`;", 3);
+        fault("pay{;", 3);
+        fault("part 5/;", 6);
+        fault("part 5:;", 6);
+        fault("part 59;part 09;part 10a;", 23);
         fault("pay wait;", 4);
         fault("pay;  wai;", 6);
         fault("Pay;", 0);
