@@ -1,9 +1,10 @@
 import java.nio.charset.StandardCharsets;
 import java.util.Random;
 
-/** Runs of 512 calls, drawn from fixed seeds, on CrownTable and on PlainHouse: all answers are the same. */
+/** Runs of up to 512 calls, drawn from fixed seeds, on CrownTable and on PlainHouse: all answers are the same. */
 public final class RandomRunsTest {
-    private static final int CALLS = 512;
+    // The last turn may bring a whole text, and the sums are asked behind it, all within 512 calls.
+    private static final int CALLS = 512 - 50;
     private static final String[] WORDS = {"pay", "part", "wait", "quit", "call", "hold", "if", "then", "and", "or",
         "not", "owed", "all", "age", "kind", "coins", "term", "year", "held", "paid", "pledged",
         ";", "(", ")", "<", "=", ">", "+", "-", "*", "0", "1", "100", "101", "999999", "1000000", "\t", "A", "xyz"};
