@@ -17,6 +17,8 @@ public final class AskingTest {
         factsAtTheirEdges();
         years();
         firstStatement();
+        longTexts();
+        allAsItIsAsked();
         pays();
         parts();
         smallDebts();
@@ -64,6 +66,11 @@ public final class AskingTest {
             test("(" + say(a) + " or " + say(b) + ")and " + say(c), (a || b) && c);
             test(say(a) + " and not(" + say(b) + " or not " + say(c) + ")", a && !(b || !c));
         }
+        test("1<2 and 1=1 and 2>1", true);
+        test("1=1 and 1<2", true);
+        test("1=1 and not 1<2", false);
+        test("2>1 and not 2>1", false);
+        test("not 1<2 or not 2>1 or not 1=1", false);
         test("not ".repeat(15) + "1=1", false);
         test("not ".repeat(14) + "1=1", true);
     }
@@ -153,6 +160,39 @@ public final class AskingTest {
         int alone = Check.read(x, "if owed=41 then quit;pay;wait;if owed=40 then hold;");
         Check.due("8: an act alone always", x.would(alone, 0, 0), 1);
         Check.due("8: one before it", x.would(alone, 1, 0), 0);
+    }
+
+    /** Ten texts of some 800 bytes each are told apart to their last byte. */
+    private static void longTexts() {
+        CrownTable x = new CrownTable();
+        x.debt(0, 1, 1, -1);
+        for (int text = 0; text < 10; text++) {
+            String sum = "owed" + "*1".repeat(380) + "=" + text % 2;
+            Check.due("4: long text", Check.read(x, "if " + sum + " then pay;wait;"), text);
+        }
+        for (int text = 0; text < 10; text++) {
+            Check.due("8: long text " + text, x.would(text, 0, 0), 1 - text % 2);
+        }
+    }
+
+    /** What is paid, pardoned or called of a debt is no part of all when the next one is asked. */
+    private static void allAsItIsAsked() {
+        allBehindEachAct("wait", 0, 900);
+        allBehindEachAct("hold", 0, 900);
+        allBehindEachAct("quit", 0, 800);
+        allBehindEachAct("pay", 100, 800);
+        allBehindEachAct("part 30", 30, 870);
+        allBehindEachAct("call", 0, 800);
+    }
+
+    /** Of 100 and 800 the first has been asked. */
+    private static void allBehindEachAct(String act, int paid, int all) {
+        CrownTable x = Check.houseWith("if owed=100 then " + act + ";if all=" + all + " and paid=" + paid + " then quit;");
+        x.debt(0, 3, 100, 1);
+        x.debt(0, 1, 800, -1);
+        x.come(0, 500);
+        Check.due("12: all behind " + act, x.line(1, 5), 1);
+        Check.due("16: left behind " + act, x.owe(0, 0), all - 800);
     }
 
     /** One debt, one coming: what is paid, left, and kept as credit. */

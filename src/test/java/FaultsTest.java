@@ -30,12 +30,14 @@ public final class FaultsTest {
         ends();
         everyByte();
         everyWord();
+        everyLetter();
         everyShare();
         digits();
         statements();
         nestings();
         siblings();
         lengths();
+        oneAfterAnother();
         Check.finish();
     }
 
@@ -182,6 +184,20 @@ public final class FaultsTest {
         }
     }
 
+    /** A WORD with one letter changed is another one, and no other may stand in its place. */
+    private static void everyLetter() {
+        for (String word : (ACTS + WORDS + JOINS).split(" ")) {
+            String around = around(word);
+            int fault = -100 - around.indexOf('@');
+            for (int i = 0; i < word.length(); i++) {
+                for (char c = 'a'; c <= 'z'; c++) {
+                    String changed = word.substring(0, i) + c + word.substring(i + 1);
+                    Check.due("4: " + changed + " for " + word, read(around.replace("@", changed)), changed.equals(word) ? 0 : fault);
+                }
+            }
+        }
+    }
+
     private static void everyShare() {
         for (int share = 0; share <= 1100; share++) {
             int due = share >= 1 && share <= 100 ? 0 : -105;
@@ -289,5 +305,19 @@ public final class FaultsTest {
         x.feed(0x7061793b, 0x20202020, 0x20202020, 0x20202020, 0x20207175);
         x.feed(0x69743b20, 0x20202020, 0x20202020, 0x20202020, 0x20202020);
         Check.due("2: a word goes on over two feeds", x.text() * 10 + x.statements(1), 12);
+    }
+
+    /** A fault leaves nothing behind for the next text, and neither does a text. */
+    private static void oneAfterAnother() {
+        CrownTable x = new CrownTable();
+        x.debt(0, 1, 7, -1);
+        String deep = "if " + "not (".repeat(7) + "not owed=7" + ")".repeat(7) + "then pay;";
+        for (String faulty : new String[] {"if " + "(".repeat(15) + "1=1", "if " + "not ".repeat(15), "pay;wait;if 1=1 then part",
+            "if 1=1 and (1=1 or (1=1 and not", "if 1=1", "if owed+1*2", "if owed=7 then", "pay;".repeat(41)}) {
+            Check.due("4: a faulty one", Check.read(x, faulty) <= -100);
+            Check.due("4: a deep one behind it", Check.read(x, deep), x.count(3) - 1);
+            Check.due("8: asked by it", x.would(x.count(3) - 1, 0, 0), 0);
+            Check.due("5: its statements", x.statements(x.count(3) - 1), 1);
+        }
     }
 }
