@@ -185,14 +185,21 @@ public final class AskingTest {
         allBehindEachAct("call", 0, 800);
     }
 
-    /** Of 100 and 800 the first has been asked. */
+    /** Of 100, which is left of 200, and of 800 the first has been asked. */
     private static void allBehindEachAct(String act, int paid, int all) {
-        CrownTable x = Check.houseWith("if owed=100 then " + act + ";if all=" + all + " and paid=" + paid + " then quit;");
-        x.debt(0, 3, 100, 1);
-        x.debt(0, 1, 800, -1);
-        x.come(0, 500);
-        Check.due("12: all behind " + act, x.line(1, 5), 1);
-        Check.due("16: left behind " + act, x.owe(0, 0), all - 800);
+        CrownTable x = Check.houseWith("if owed=200 then part 50;if owed=100 then " + act + ";"
+            + "if all=" + all + " and paid=" + paid + " then quit;");
+        x.debt(3, 1, 1, -1);
+        x.debt(9, 3, 200, 1);
+        x.debt(9, 1, 800, -1);
+        x.come(9, 100);
+        x.term();
+        x.come(9, 500);
+        Check.due("12: act is " + act, x.line(2, 5), 1);
+        Check.due("12: all behind " + act, x.line(3, 5), 2);
+        Check.due("16: left behind " + act, x.owe(9, 0), all - 800);
+        Check.due("15: pardoned by " + act, x.about(1, 6), act.equals("quit") ? 100 : 0);
+        Check.due("15: pardoned behind " + act, x.about(2, 6), 800);
     }
 
     /** One debt, one coming: what is paid, left, and kept as credit. */
@@ -406,6 +413,7 @@ public final class AskingTest {
             Check.due("12: credit " + person, x.owe(person, 1), person);
         }
         Check.due("24: brought", x.sum(6), 120);
+        Check.due("24: credits of all persons", x.sum(2), 120);
         x.heir(3, 4);
         Check.due("14: who came has come", x.owe(3, 4) + x.owe(4, 4), 2);
         x.term();

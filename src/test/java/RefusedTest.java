@@ -426,7 +426,8 @@ public final class RefusedTest {
         taken("15: first debt, first", BUSY, x -> x.about(0, 0), 1);
         taken("15: last debt, last but one", BUSY, x -> x.about(7, 5), 6);
         taken("15: a pardoned debt, last", BUSY, x -> x.about(2, 6), 90);
-        taken("15: debt 399", () -> allDebts(), x -> x.about(399, 2), 77);
+        taken("15: debt 399", RefusedTest::allDebts, x -> x.about(399, 2), 77);
+        refused("15: debt 400", RefusedTest::allDebts, x -> x.about(400, 2), -2);
         refused("15: about none", NEW, x -> x.about(0, 0), -2);
     }
 
@@ -441,6 +442,7 @@ public final class RefusedTest {
         taken("17: last line, last", BUSY, x -> x.line(6, 7), -1);
         taken("17: the line before, last", BUSY, x -> x.line(5, 7), 2);
         taken("17: line 3999", FULL_ROLL, x -> x.line(3999, 1), 15);
+        refused("17: line 4000", FULL_ROLL, x -> x.line(4000, 1), -2);
         refused("17: no lines", NEW, x -> x.line(0, 0), -2);
         for (int debt : new int[] {-1, 8, 400, MIN, MAX}) {
             refused("18: of debt " + debt, BUSY, x -> x.as(debt, 0), -2);
@@ -473,6 +475,9 @@ public final class RefusedTest {
         taken("19: its last column", BUSY, x -> x.stick(2, 5), 0);
         taken("19: its first column", BUSY, x -> x.stick(2, 0), 8);
         taken("19: stick 1999", ALL_STICKS, x -> x.stick(1999, -1), 1);
+        taken("20: stick 1999", ALL_STICKS, x -> x.fits(1999, 1), 6);
+        refused("19: stick 2000", ALL_STICKS, x -> x.stick(2000, -1), BAD);
+        refused("20: stick 2000", ALL_STICKS, x -> x.fits(2000, 1), BAD);
         refused("19: no sticks", NEW, x -> x.stick(0, 0), BAD);
         refused("20: no sticks", NEW, x -> x.fits(0, 0), BAD);
         refused("20: a foil of nothing", BUSY, x -> x.fits(0, 0), 0);
