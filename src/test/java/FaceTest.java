@@ -24,7 +24,12 @@ public final class FaceTest {
         "\\bthrow\\b", "\\btry\\b", "\\bcatch\\b", "\\bsynchronized\\b", "\\bassert\\b", "->", "::", "\\bnew \\w+\\(.*\\) \\{",
         "\\bstatic \\{", "Exact\\(", "\\bpackage\\b", "\\bdouble\\b", "\\bfloat\\b"};
 
+    private static final Set<String> FACE_NAMES = new TreeSet<>();
+
     public static void main(String[] args) throws IOException {
+        for (String one : FACE) {
+            FACE_NAMES.add(one.substring(one.indexOf(' ') + 1, one.indexOf('(')));
+        }
         constants();
         methods();
         fields();
@@ -49,13 +54,9 @@ public final class FaceTest {
 
     private static void methods() {
         Set<String> due = new TreeSet<>(Arrays.asList(FACE));
-        Set<String> names = new TreeSet<>();
-        for (String one : FACE) {
-            names.add(one.substring(one.indexOf(' ') + 1, one.indexOf('(')));
-        }
         for (Method method : CrownTable.class.getDeclaredMethods()) {
             if (Modifier.isPrivate(method.getModifiers())) {
-                Check.due("private " + method + " has a name of its own", !names.contains(method.getName()));
+                Check.due("private " + method + " has a name of its own", !FACE_NAMES.contains(method.getName()));
             } else {
                 Check.due(method + " is in the face", due.remove(signature(method)));
                 Check.due(method + " is public", Modifier.isPublic(method.getModifiers()));
@@ -91,6 +92,22 @@ public final class FaceTest {
                 boolean isStatic = Modifier.isStatic(field.getModifiers());
                 Check.due(field + " is final if static", !isStatic || Modifier.isFinal(field.getModifiers()));
             }
+            for (Method method : one.getDeclaredMethods()) {
+                Check.due(method + " has a name of its own", !FACE_NAMES.contains(method.getName()));
+            }
+            sizes(one);
+        }
+        sizes(CrownTable.class);
+    }
+
+    private static void sizes(Class<?> one) {
+        int fields = 0;
+        for (Field field : one.getDeclaredFields()) {
+            fields += Modifier.isStatic(field.getModifiers()) ? 0 : 1;
+        }
+        Check.due(one + " has at most twenty fields", fields <= 20);
+        for (Method method : one.getDeclaredMethods()) {
+            Check.due(method + " takes at most seven parameters", method.getParameterCount() <= 7);
         }
     }
 
